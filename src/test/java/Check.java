@@ -1,0 +1,67 @@
+import java.util.function.Consumer;
+
+/** What every test says of an answer, and of a call that is refused. */
+final class Check {
+    private static int wrong = 0;
+
+    private Check() {
+    }
+
+    static void same(String what, long got, long want) {
+        if (got != want) {
+            tell(what + " answered " + got + ", due is " + want);
+        }
+    }
+
+    static void same(String what, double got, double want) {
+        if (got != want) {
+            tell(what + " answered " + got + ", due is " + want);
+        }
+    }
+
+    static void same(String what, char got, char want) {
+        if (got != want) {
+            tell(what + " answered '" + got + "', due is '" + want + "'");
+        }
+    }
+
+    static void same(String what, boolean got, boolean want) {
+        if (got != want) {
+            tell(what + " answered " + got + ", due is " + want);
+        }
+    }
+
+    static void same(String what, String got, String want) {
+        if (!got.equals(want)) {
+            tell(what + " answered\n  " + got + "\ndue is\n  " + want);
+        }
+    }
+
+    /** The call throws just that exception, and leaves the object as one that never met the call. */
+    static void refused(String what, Class<? extends RuntimeException> want, Consumer<Boringhead> scene, Consumer<Boringhead> call) {
+        Boringhead met = new Boringhead();
+        Boringhead spared = new Boringhead();
+        scene.accept(met);
+        scene.accept(spared);
+        String thrown = "nothing";
+        try {
+            call.accept(met);
+        } catch (RuntimeException e) {
+            thrown = e.getClass().getSimpleName();
+        }
+        same(what + " throws", thrown, want.getSimpleName());
+        same(what + " leaves", State.of(met), State.of(spared));
+    }
+
+    static void tell(String text) {
+        wrong++;
+        System.out.println(text);
+    }
+
+    static void end() {
+        System.out.println(wrong == 0 ? "all is as due" : wrong + " answers are not as due");
+        if (wrong > 0) {
+            System.exit(1);
+        }
+    }
+}
