@@ -56,41 +56,19 @@ public final class Boringhead {
     // ---- the ground
 
     public int ground(int from, int to, char kind) throws IllegalArgumentException, UnsupportedOperationException {
-        int found = indexIn(KINDS, kind);
-        if (!isStretch(from, to) || found < 0) {
-            throw new IllegalArgumentException("no such places, or no such kind");
-        }
-        refuseBuilt(from);
-        return fill(soil.kinds, from, to, found);
+        return tellKind(soil.kinds, from, to, kind);
     }
 
     public int reference(int from, int to, char kind) throws IllegalArgumentException, UnsupportedOperationException {
-        int found = indexIn(KINDS, kind);
-        if (!isStretch(from, to) || found < 0) {
-            throw new IllegalArgumentException("no such places, or no such kind");
-        }
-        refuseBuilt(from);
-        return fill(soil.references, from, to, found);
+        return tellKind(soil.references, from, to, kind);
     }
 
     public int depth(int from, int to, int depth) throws IllegalArgumentException, UnsupportedOperationException {
-        if (!isStretch(from, to) || !isWithin(depth, 10, 60)) {
-            throw new IllegalArgumentException("no such places, or no such depth");
-        }
-        refuseBuilt(from);
-        int before = at(soil.depths, from);
-        fill(soil.depths, from, to, depth);
-        return before;
+        return tellNumber(soil.depths, from, to, depth, 10, 60);
     }
 
     public int water(int from, int to, int water) throws IllegalArgumentException, UnsupportedOperationException {
-        if (!isStretch(from, to) || !isWithin(water, 0, 40)) {
-            throw new IllegalArgumentException("no such places, or no such water");
-        }
-        refuseBuilt(from);
-        int before = at(soil.waters, from);
-        fill(soil.waters, from, to, water);
-        return before;
+        return tellNumber(soil.waters, from, to, water, 0, 40);
     }
 
     public int bend(int from, int to, int right, int up) throws IllegalArgumentException, UnsupportedOperationException {
@@ -542,6 +520,27 @@ public final class Boringhead {
             throw new IndexOutOfBoundsException("no such house");
         }
         return houses.get(house);
+    }
+
+    // ---- telling of places
+
+    private int tellKind(int[] row, int from, int to, char kind) {
+        int found = indexIn(KINDS, kind);
+        if (!isStretch(from, to) || found < 0) {
+            throw new IllegalArgumentException("no such places, or no such kind");
+        }
+        refuseBuilt(from);
+        return fill(row, from, to, found);
+    }
+
+    private int tellNumber(int[] row, int from, int to, int number, int least, int most) {
+        if (!isStretch(from, to) || !isWithin(number, least, most)) {
+            throw new IllegalArgumentException("no such places, or a number out of range");
+        }
+        refuseBuilt(from);
+        int before = at(row, from);
+        fill(row, from, to, number);
+        return before;
     }
 
     // ---- rows of numbers and letters

@@ -48,9 +48,17 @@ final class Check {
             call.accept(met);
         } catch (RuntimeException e) {
             thrown = e.getClass().getSimpleName();
+            same(what + ": the class throws it itself", isOwn(e), true);
         }
         same(what + " throws", thrown, want.getSimpleName());
         same(what + " leaves", State.of(met), State.of(spared));
+    }
+
+    /** Whether a throw statement of the class threw it, not the library, nor the machine, whose own ones tell more. */
+    static boolean isOwn(Throwable thrown) {
+        StackTraceElement[] trace = thrown.getStackTrace();
+        return trace.length > 0 && trace[0].getClassName().startsWith("Boringhead")
+                && thrown.getClass() != ArrayIndexOutOfBoundsException.class;
     }
 
     static void tell(String text) {

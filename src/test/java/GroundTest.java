@@ -195,9 +195,13 @@ public final class GroundTest {
         Check.same("doubt with like weights", x.doubt(6), 500);
         x.bore(8, 's');
         Check.same("doubt of weights summed", x.doubt(8), 1000 - 18000 / 29);
+        x.bore(18, 'c');
+        Check.same("doubt with clay at its edge", x.doubt(8), 1000 - 18000 / 30);
+        x.bore(9, 'b');
+        Check.same("doubt with all four kinds", x.doubt(8), 1000 - 18000 / 40);
         Scenes.clay(x, 3);
         Check.same("doubt at a ring", x.doubt(2), 0);
-        Check.same("doubt behind the rings", x.doubt(3), 1000 - 16000 / 22);
+        Check.same("doubt behind the rings", x.doubt(3), 1000 - 16000 / 27);
         for (int place : new int[] {-1, 200, Integer.MIN_VALUE}) {
             Check.refused("doubt at " + place, ARGUMENT, Scenes::fresh, y -> y.doubt(place));
         }

@@ -178,6 +178,7 @@ public final class LongRunsTest {
                 try {
                     return method.invoke(on, arguments);
                 } catch (InvocationTargetException e) {
+                    Check.same("thrown by a throw of its own", on instanceof Model || Check.isOwn(e.getCause()), true);
                     return e.getCause().getClass();
                 }
             }

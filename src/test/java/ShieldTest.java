@@ -209,6 +209,14 @@ public final class ShieldTest {
     private static void barOfCutters() {
         Check.same("worn 99 bars nothing", worn(3).bars(1), '-');
         Check.same("worn 100 bars", worn(4).bars(1), 'c');
+        for (int cutter = 0; cutter < 2; cutter++) {
+            Boringhead x = new Boringhead();
+            Scenes.boulders(x);
+            x.change(cutter);
+            Check.same("bar of the other one", x.bars(1), 'c');
+            x.change(1 - cutter);
+            Check.same("no bar with both changed", x.bars(1), '-');
+        }
     }
 
     /** Cutters 2 to 7 worn by 96 in rock, 0 and 1 changed in time, and so many rings of clay more. */

@@ -51,6 +51,11 @@ public final class StuffTest {
         Check.same("only one went", x.now(), 365 + 40 + 5);
         Check.same("muck then", x.muck(), 0);
         Check.same("soundness then", x.isSound(), true);
+        x.deliver(1);
+        x.ground(3, 3, 's');
+        x.advance(4);
+        Check.same("muck for three lorries, none over", x.lorries(100), 60);
+        Check.same("just three went", x.now(), 410 + 40 + 15);
         for (int many : new int[] {0, 101, -1, Integer.MAX_VALUE}) {
             Check.refused("lorries " + many, ARGUMENT, Scenes::threeRings, y -> y.lorries(many));
         }

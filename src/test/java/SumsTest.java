@@ -75,7 +75,11 @@ public final class SumsTest {
         x.lorries(4);
         x.first('h');
         x.pause(600, 'h', 'w');
+        x.pause(600, 's', '-');
+        x.pause(600, 'w', '-');
         Check.same("sound behind all", x.isSound(), true);
+        x.plan(3);
+        Check.same("sound behind a plan", x.isSound(), true);
         Boringhead whole = new Boringhead();
         Scenes.whole(whole);
         Check.same("sound with 120 rings", whole.isSound(), true);
