@@ -3,6 +3,7 @@ import java.util.function.Consumer;
 /** What every test says of an answer, and of a call that is refused. */
 final class Check {
     private static int wrong = 0;
+    private static String tested = "";
 
     private Check() {
     }
@@ -37,21 +38,27 @@ final class Check {
         }
     }
 
-    /** The call throws just that exception, and leaves the object as one that never met the call. */
+    /** The call throws just that exception, and leaves the object as one that never met the call, in every view. */
     static void refused(String what, Class<? extends RuntimeException> want, Consumer<Boringhead> scene, Consumer<Boringhead> call) {
-        Boringhead met = new Boringhead();
-        Boringhead spared = new Boringhead();
-        scene.accept(met);
-        scene.accept(spared);
+        for (int view = 0; view < State.VIEWS; view++) {
+            Boringhead met = new Boringhead();
+            Boringhead spared = new Boringhead();
+            scene.accept(met);
+            scene.accept(spared);
+            throwsIt(what, want, met, call);
+            same(what + " leaves", State.of(met, view), State.of(spared, view));
+        }
+    }
+
+    static void throwsIt(String what, Class<? extends RuntimeException> want, Boringhead x, Consumer<Boringhead> call) {
         String thrown = "nothing";
         try {
-            call.accept(met);
+            call.accept(x);
         } catch (RuntimeException e) {
             thrown = e.getClass().getSimpleName();
             same(what + ": the class throws it itself", isOwn(e), true);
         }
         same(what + " throws", thrown, want.getSimpleName());
-        same(what + " leaves", State.of(met), State.of(spared));
     }
 
     /** Whether a throw statement of the class threw it, not the library, nor the machine, whose own ones tell more. */
@@ -61,9 +68,14 @@ final class Check {
                 && thrown.getClass() != ArrayIndexOutOfBoundsException.class;
     }
 
+    /** The sentence of the document that is tested now; what is wrong is told with it. */
+    static void begin(String sentence) {
+        tested = sentence;
+    }
+
     static void tell(String text) {
         wrong++;
-        System.out.println(text);
+        System.out.println((tested.isEmpty() ? "" : "[" + tested + "] ") + text);
     }
 
     static void end() {

@@ -35,22 +35,27 @@ final class Scenes {
 
     /** All 120 rings in clay, in some 150 calls. */
     static void whole(Boringhead x) {
+        driven(x, 120, 0, 4);
+    }
+
+    /** So many rings in clay, with two rotations in turn; behind each thirty, the pit is too full for one more. */
+    static void driven(Boringhead x, int rings, int even, int odd) {
         x.pressure(100);
-        for (int i = 0; i < 120; i++) {
+        for (int i = 0; i < rings; i++) {
             if (i % 40 == 0) {
                 x.deliver(40);
             }
-            if (i % 28 == 27) {
+            if (i > 0 && i % 30 == 0) {
                 emptyPit(x);
             }
             if (i == 50 || i == 100) {
                 changeCutters(x, i == 50 ? 2 : 8);
             }
-            x.advance(i % 2 == 0 ? 0 : 4);
+            x.advance(i % 2 == 0 ? even : odd);
         }
     }
 
-    private static void emptyPit(Boringhead x) {
+    static void emptyPit(Boringhead x) {
         int day = x.now() / 1440 * 1440;
         if (x.now() >= day + 1320) {
             day += 1440;

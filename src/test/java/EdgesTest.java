@@ -1,0 +1,14 @@
+/** Every boundary that the document names, each with a test of its own that bears the sentence as its name. */
+public final class EdgesTest {
+    public static void main(String[] args) {
+        EdgesOfGround.all();
+        EdgesOfShield.all();
+        EdgesOfLine.all();
+        EdgesOfHouses.all();
+        EdgesOfStuff.all();
+        EdgesOfContract.all();
+        EdgesOfExceptions.all();
+        Sentence.end();
+        Check.end();
+    }
+}
