@@ -190,6 +190,9 @@ final class EdgesOfContract {
             Boringhead whole = Edge.made(Scenes::whole);
             whole.grout(119, 7);
             Check.same("of 120", whole.groutShare(), 7f / 14400f);
+            whole.grout(0, 144);
+            whole.grout(60, 1);
+            Check.same("of 120, at three of them", whole.groutShare(), 152f / 14400f);
         });
         Sentence.of(46, "if there are no rings", () -> {
             Edge.refused("at first", Edge.ARITHMETIC, Scenes::fresh, Boringhead::groutShare);
@@ -262,6 +265,16 @@ final class EdgesOfContract {
             x.lorries(100);
             Check.same("with events, muck carried away", x.isSound(), true);
             Check.same("with a full pit", Edge.made(y -> EdgesOfShield.mucky(y, 20, 10)).isSound(), true);
+            Boringhead pushed = new Boringhead();
+            pushed.steer(5, -3);
+            pushed.bend(0, 2, -20, 7);
+            Scenes.clay(pushed, 3);
+            Check.same("with jacks and bends", pushed.isSound(), true);
+            pushed.steer(-4, 1);
+            pushed.plan(3);
+            Check.same("behind a plan", pushed.isSound(), true);
+            Check.same("asked again", pushed.isSound(), true);
+            Check.same("far off the line", Edge.made(EdgesOfLine::farOff).isSound(), true);
         });
         Sentence.of(49, "no two rings one behind the other have the same rotation", () -> {
             Check.same("with 120", Edge.made(Scenes::whole).isSound(), true);
@@ -277,11 +290,14 @@ final class EdgesOfContract {
         Sentence.of(49, "and the clock is the sum of all that took time", () -> {
             Boringhead x = Edge.made(Scenes::boulders);
             x.change(0);
+            x.change(1);
             x.house(0, 0, 0);
             x.lift(0, false, 50);
+            x.lift(0, true, 1);
             Scenes.waitUntil(x, 99900);
             x.lorries(3);
-            x.pause(84, 'g', 'p');
+            x.lorries(1);
+            x.pause(79, 'g', 'p');
             Check.same("at the clock's end", x.now(), 99999);
             Check.same("with all kinds of it", x.isSound(), true);
         });

@@ -369,7 +369,7 @@ final class EdgesOfLine {
     }
 
     /** All rings turn to the right, the line to the left. */
-    private static void farOff(Boringhead x) {
+    static void farOff(Boringhead x) {
         x.bend(0, 199, -20, -20);
         x.steer(5, 5);
         Scenes.driven(x, 120, 2, 1);

@@ -6,10 +6,11 @@ import java.util.List;
 import java.util.Map;
 import java.util.TreeMap;
 
-/** Runs of up to 512 calls, likely and unlikely ones, each answer compared with that of the model. */
+/** Runs of 512 calls, likely and unlikely ones, each answer compared with that of the model. */
 public final class LongRunsTest {
     private static final int RUNS = 240;
-    private static final int CALLS = 480;
+    // With a checksum behind each twentieth call, 512 in all.
+    private static final int CALLS = 488;
 
     private final List<Method> methods = new ArrayList<>();
     private final Map<String, Integer> answered = new TreeMap<>();
