@@ -1,7 +1,10 @@
+import java.io.IOException;
 import java.lang.reflect.Constructor;
 import java.lang.reflect.Field;
 import java.lang.reflect.Method;
 import java.lang.reflect.Modifier;
+import java.nio.file.Files;
+import java.nio.file.Path;
 import java.util.ArrayList;
 import java.util.Arrays;
 import java.util.HashSet;
@@ -62,8 +65,9 @@ public final class FaceTest {
         "boolean isSound()",
     };
 
-    public static void main(String[] args) {
+    public static void main(String[] args) throws IOException {
         face();
+        asWritten();
         constructor();
         members();
         Check.end();
@@ -77,6 +81,24 @@ public final class FaceTest {
             }
         }
         Check.same("the face", new TreeSet<>(found).toString(), new TreeSet<>(Arrays.asList(FACE)).toString());
+    }
+
+    /** Each line of the document's face stands in the source as it is there, with the names of what a call is given. */
+    private static void asWritten() throws IOException {
+        Path doc = Path.of("../shared/DOC.md");
+        if (!Files.exists(doc)) {
+            System.out.println("no document at " + doc + ": its face is not compared");
+            return;
+        }
+        List<String> source = Files.readAllLines(Path.of("src/main/java/Boringhead.java"));
+        int many = 0;
+        for (String line : Files.readAllLines(doc)) {
+            if (line.startsWith("    public ")) {
+                many++;
+                Check.same("stands in the source: " + line, source.contains(line.replace(";", " {")), true);
+            }
+        }
+        Check.same("lines of the document's face", many, FACE.length + 1);
     }
 
     private static String row(Method method) {

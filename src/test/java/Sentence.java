@@ -6,12 +6,13 @@ import java.util.regex.Matcher;
 import java.util.regex.Pattern;
 
 /**
- * A sentence of the document, quoted as it stands there, with the test of the boundary that it names. In the end each
- * clause of the terms and each line of the promises must have been quoted, so that none goes without a test.
+ * A sentence of the document, quoted as it stands there, with the test of what it says. In the end each clause of the
+ * document and each line of its promises must have been quoted, so that none goes without a test.
  */
 final class Sentence {
     private static final String PATH = "../shared/DOC.md";
     private static final int PROMISES = 49;
+    private static final int MOST_LEFT = 5;
     private static final String DOC = read();
     private static final BitSet QUOTED = new BitSet();
     private static int tested = 0;
@@ -84,12 +85,12 @@ final class Sentence {
     }
 
     private static void allClauses() {
-        clauses(DOC.indexOf("An object is used"), DOC.indexOf("## The public face"), "[.;:] ");
+        clauses(DOC.indexOf("A tunnel that is driven"), DOC.indexOf("## The public face"), "[.;:] ");
         clauses(DOC.indexOf("A ring once built"), DOC.indexOf("A method that throws an"), "[.;:] ");
         clauses(DOC.indexOf("A method that throws an"), start(1), "[.;:] ");
-        for (int promise = 2; promise <= PROMISES; promise++) {
+        for (int promise = 1; promise <= PROMISES; promise++) {
             int signature = DOC.indexOf("`: ", start(promise));
-            clauses(DOC.indexOf(". ", signature) + 2, start(promise + 1), "\\. | (?=- `)| (?=Returns )| (?=Throws `)|, or |, ");
+            clauses(signature + 3, start(promise + 1), "\\. | (?=- `)| (?=Returns )| (?=Throws `)|, or |, ");
         }
     }
 
@@ -101,6 +102,7 @@ final class Sentence {
             at = matcher.end();
         }
         clause(at, to);
+        words(from, to);
     }
 
     private static void clause(int from, int to) {
@@ -108,6 +110,20 @@ final class Sentence {
         boolean isQuoted = quoted >= 0 && quoted < to;
         if (to - from > 2 && !isQuoted) {
             Check.tell("no test quotes: " + DOC.substring(from, to));
+        }
+    }
+
+    /** A clause is quoted from end to end, but for a few words that join it with others. */
+    private static void words(int from, int to) {
+        int at = QUOTED.nextClearBit(from);
+        while (at < to) {
+            int quoted = QUOTED.nextSetBit(at);
+            int end = quoted < 0 || quoted > to ? to : quoted;
+            String left = DOC.substring(at, end).replaceAll("^\\W+", "");
+            if (left.split("\\W+").length > MOST_LEFT) {
+                Check.tell("no test quotes all of: " + left);
+            }
+            at = QUOTED.nextClearBit(end);
         }
     }
 }
