@@ -43,6 +43,7 @@ public final class Boringhead {
     private final Soil soil = new Soil();
     private final Shield shield = new Shield();
     private final Course course = new Course();
+    // Made once for the plan and for isSound, so that neither makes an object in each call.
     private final Course trial = new Course();
     private final Yard yard = new Yard();
     private final Clock clock = new Clock();
@@ -907,6 +908,7 @@ public final class Boringhead {
     private static final class Ring {
         private final int turn;
         private final int kind;
+        // Kept as they were when the ring was built, for isSound to reckon from.
         private final int pushRight;
         private final int pushUp;
         private final boolean isFoamed;
